@@ -208,7 +208,7 @@ public final class WrongCoats {
     if (fault != Reader.NO_FAULT) {
       return -10 - fault;
     }
-    house.laws[use].become(reader.code);
+    house.laws[use].standAs(reader.code);
     return 1;
   }
 
@@ -297,7 +297,7 @@ public final class WrongCoats {
       return refuse(NONE);
     }
     thought.findOrder(house, boy);
-    return what < 0 ? thought.orderSum : thought.order[what];
+    return what < 0 ? thought.orderSum : thought.bestOrder[what];
   }
 
   public int right() {
@@ -618,7 +618,7 @@ public final class WrongCoats {
       this.most = most;
     }
 
-    void become(Ints readCode) {
+    void standAs(Ints readCode) {
       code.copyFrom(readCode);
       stands = true;
     }
@@ -629,10 +629,9 @@ public final class WrongCoats {
     }
 
     int gives(int a, int b, int c) {
-      return held(stands ? workOut(a, b, c) : a, least, most);
-    }
-
-    private int workOut(int a, int b, int c) {
+      if (!stands) {
+        return held(a, least, most);
+      }
       stack.size = 0;
       for (int i = 0; i < code.size; i++) {
         int item = code.rows[i];
@@ -641,18 +640,11 @@ public final class WrongCoats {
         } else if (item >= -NAMES) {
           stack.push(item == -1 ? a : item == -2 ? b : c);
         } else {
-          stack.push(applied(-item));
+          int second = stack.pop();
+          stack.push(item == -'!' ? one(second == 0) : joined(-item, stack.pop(), second));
         }
       }
-      return stack.pop();
-    }
-
-    private int applied(int sign) {
-      int second = stack.pop();
-      if (sign == '!') {
-        return second == 0 ? 1 : 0;
-      }
-      return joined(sign, stack.pop(), second);
+      return held(stack.pop(), least, most);
     }
 
     private static int joined(int sign, int a, int b) {
@@ -667,24 +659,23 @@ public final class WrongCoats {
           return b == 0 ? 0 : a / b;
         case '%':
           return b == 0 ? 0 : a % b;
+        case '<':
+          return one(a < b);
+        case '=':
+          return one(a == b);
+        case '>':
+          return one(a > b);
+        case '&':
+          return one(a != 0 && b != 0);
+        case '|':
+          return one(a != 0 || b != 0);
         default:
-          return holds(sign, a, b) ? 1 : 0;
+          return 0;
       }
     }
 
-    private static boolean holds(int sign, int a, int b) {
-      switch (sign) {
-        case '<':
-          return a < b;
-        case '=':
-          return a == b;
-        case '>':
-          return a > b;
-        case '&':
-          return a != 0 && b != 0;
-        default:
-          return a != 0 || b != 0;
-      }
+    private static int one(boolean holds) {
+      return holds ? 1 : 0;
     }
   }
 
@@ -1085,9 +1076,10 @@ public final class WrongCoats {
 
     final int[] given = new int[MOST];
     int bestSum;
-    final int[] order = new int[MOST];
+    final int[] bestOrder = new int[MOST];
     int orderSum;
     private boolean orderFound;
+    private int people;
     private final int[] path = new int[MOST];
     private final int[] got = new int[MOST];
     private final int[] makes = new int[MOST * MOST];
@@ -1153,33 +1145,39 @@ public final class WrongCoats {
       boy.learnAll(house);
       orderSum = 0;
       orderFound = false;
-      goOn(boy, 0, house.guests, 0, house.allCoats(), 0);
+      people = house.guests;
+      goOn(boy, 0, 0, house.allCoats(), 0);
     }
 
     /** Orders are tried from the least on, so that only a better one takes the place of one. */
-    private void goOn(Boy boy, int depth, int guests, int gone, int pegs, int sum) {
-      if (depth >= guests || depth >= MOST) {
-        keepOrder(guests, sum);
+    private void goOn(Boy boy, int depth, int gone, int pegs, int sum) {
+      if (depth >= people || depth >= MOST) {
+        keepOrder(sum);
         return;
       }
-      for (int g = 0; g < guests; g++) {
+      for (int g = 0; g < people; g++) {
         if ((gone & 1 << g) == 0) {
-          int coat = boy.pick(g, pegs);
-          int more = coat < 0 ? 0 : makes[g * MOST + coat];
           path[depth] = g;
-          goOn(boy, depth + 1, guests, gone | 1 << g, pegs & ~bitOf(coat), sum + more);
+          leaveNext(boy, depth, gone, pegs, sum);
         }
       }
     }
 
-    private void keepOrder(int guests, int sum) {
+    private void leaveNext(Boy boy, int depth, int gone, int pegs, int sum) {
+      int guest = path[depth];
+      int coat = boy.pick(guest, pegs);
+      int more = coat < 0 ? 0 : makes[guest * MOST + coat];
+      goOn(boy, depth + 1, gone | 1 << guest, pegs & ~bitOf(coat), sum + more);
+    }
+
+    private void keepOrder(int sum) {
       if (orderFound && sum <= orderSum) {
         return;
       }
       orderFound = true;
       orderSum = sum;
-      for (int i = 0; i < guests; i++) {
-        order[i] = path[i];
+      for (int i = 0; i < people; i++) {
+        bestOrder[i] = path[i];
       }
     }
 

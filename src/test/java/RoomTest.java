@@ -1,0 +1,60 @@
+import java.lang.management.ManagementFactory;
+
+/** All calls of one run live in one small room, so no call may make anything. */
+public final class RoomTest {
+  private static final String LONG_TEXT =
+      "g*2+s*3-n%4+(g|s&n<5)*(g+1)/(s+1)+!(g=s)*7+!!g-(n+(s*2))+123";
+
+  private static void feed(WrongCoats x, String text) {
+    for (int i = 0; i < text.length(); i++) {
+      x.feed(text.charAt(i), 1);
+    }
+  }
+
+  private static long dearCalls(WrongCoats x) {
+    long sum = 0;
+    for (int i = 0; i < 3; i++) {
+      feed(x, LONG_TEXT);
+      sum += x.text(0);
+      feed(x, "d+w*o+(d>w)*3");
+      sum += x.text(1);
+      sum += x.best(i) + x.order(i) + x.odds(i, 0) + x.fits(0, 0) + x.loose(30) + x.nights(30);
+      sum += x.voice(4, 2, 5) + x.voice(4, 3, 5) + x.image() + x.restore() + x.left(1);
+      sum += x.wearsAll(0) + x.judge(0) + x.move(0, 0, 0, 1, 3) + x.tell(1) + x.check();
+    }
+    return sum;
+  }
+
+  private static WrongCoats ready(int guests) {
+    WrongCoats x = new WrongCoats();
+    for (int i = 0; i < 7; i++) {
+      if (i < guests) {
+        x.guest(i, 9 - i, i % 4);
+      }
+      x.coat(10 * i + i, Math.min(i, guests - 1));
+    }
+    x.sheet(0, 32, 6);
+    return x;
+  }
+
+  public static void main(String[] args) {
+    if (!(ManagementFactory.getThreadMXBean()
+        instanceof com.sun.management.ThreadMXBean threads)) {
+      System.out.println("this machine doesn't tell what is made");
+      return;
+    }
+    WrongCoats first = ready(6);
+    WrongCoats second = ready(7);
+    long sum = dearCalls(first) + dearCalls(second);
+    long before = threads.getCurrentThreadAllocatedBytes();
+    for (int i = 0; i < 20; i++) {
+      sum += dearCalls(first) + dearCalls(second);
+    }
+    long made = threads.getCurrentThreadAllocatedBytes() - before;
+    System.out.println(made + " bytes made by dear calls (sum " + sum + ")");
+    if (made > 10000) {
+      System.out.println("that is too much");
+      System.exit(1);
+    }
+  }
+}
