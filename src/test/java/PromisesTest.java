@@ -361,6 +361,10 @@ public final class PromisesTest {
     for (int i = 0; i < faulty.length; i++) {
       due(text(x, 0, faulty[i]), -10 - faults[i]);
     }
+    String sixty = "!g+g+g+g+g+g+g+g+g+g+g+g+g+g+g+g+g+g+g+g+g+g+g+g+g+g+g+g+g+g";
+    due(text(x, 0, sixty), 1);
+    due(x.law(0, 3, 0, 0), 87);
+    due(text(x, 0, sixty.substring(1) + "+"), -70);
     due(text(x, 1, "g"), -10);
     due(text(x, 1, "d+w+o"), 1);
     feed(x, "g");
@@ -576,6 +580,27 @@ public final class PromisesTest {
     due(ties.best(-1), 0);
     due(ties.best(0), -1);
     due(ties.best(2), -1);
+    WrongCoats some = guests(0, 9);
+    some.coat(4, -1);
+    text(some, 1, "w-5");
+    due(some.best(-1), 4);
+    due(some.best(0), -1);
+    due(some.best(1), 0);
+    WrongCoats fewer = guests(3);
+    fewer.image();
+    fewer.guest(9, 9, 0);
+    fewer.coat(4, -1);
+    due(fewer.best(-1), 9);
+    fewer.restore();
+    due(fewer.best(-1), 0);
+    WrongCoats seven = guests(1, 2, 3, 4, 5, 6, 7);
+    for (int i = 0; i < 7; i++) {
+      seven.coat(60, -1);
+    }
+    due(seven.best(-1), 7 * 30 - 28);
+    for (int i = 0; i < 7; i++) {
+      due(seven.best(i), i);
+    }
   }
 
   private static void order() {
@@ -630,6 +655,13 @@ public final class PromisesTest {
     due(x.right(), 1);
     x.wears(1, -1);
     due(x.right(), 0);
+    WrongCoats seven = guests(1, 2, 3, 4, 5, 6, 7);
+    for (int i = 0; i < 7; i++) {
+      seven.coat(0, i);
+      seven.wears(i, i);
+      due(seven.right(), i + 1);
+    }
+    due(seven.left(0), 0);
   }
 
   private static void left() {

@@ -5,19 +5,21 @@ public final class RoomTest {
   private static final String LONG_TEXT =
       "g*2+s*3-n%4+(g|s&n<5)*(g+1)/(s+1)+!(g=s)*7+!!g-(n+(s*2))+123";
 
-  private static void feed(WrongCoats x, String text) {
+  private static void tell(WrongCoats x, int use, String text) {
     for (int i = 0; i < text.length(); i++) {
       x.feed(text.charAt(i), 1);
+    }
+    if (x.text(use) != 1) {
+      System.out.println("not a text: " + text);
+      System.exit(1);
     }
   }
 
   private static long dearCalls(WrongCoats x) {
     long sum = 0;
     for (int i = 0; i < 3; i++) {
-      feed(x, LONG_TEXT);
-      sum += x.text(0);
-      feed(x, "d+w*o+(d>w)*3");
-      sum += x.text(1);
+      tell(x, 0, LONG_TEXT);
+      tell(x, 1, "d+w*o+(d>w)*3");
       sum += x.best(i) + x.order(i) + x.odds(i, 0) + x.fits(0, 0) + x.loose(30) + x.nights(30);
       sum += x.voice(4, 2, 5) + x.voice(4, 3, 5) + x.image() + x.restore() + x.left(1);
       sum += x.wearsAll(0) + x.judge(0) + x.move(0, 0, 0, 1, 3) + x.tell(1) + x.check();
