@@ -641,7 +641,7 @@ public final class WrongCoats {
           stack.push(item == -1 ? a : item == -2 ? b : c);
         } else {
           int second = stack.pop();
-          stack.push(item == -'!' ? one(second == 0) : joined(-item, stack.pop(), second));
+          stack.push(item == -'!' ? joined('=', second, 0) : joined(-item, stack.pop(), second));
         }
       }
       return held(stack.pop(), least, most);
@@ -660,22 +660,18 @@ public final class WrongCoats {
         case '%':
           return b == 0 ? 0 : a % b;
         case '<':
-          return one(a < b);
+          return a < b ? 1 : 0;
         case '=':
-          return one(a == b);
+          return a == b ? 1 : 0;
         case '>':
-          return one(a > b);
+          return a > b ? 1 : 0;
         case '&':
-          return one(a != 0 && b != 0);
+          return a != 0 && b != 0 ? 1 : 0;
         case '|':
-          return one(a != 0 || b != 0);
+          return a != 0 || b != 0 ? 1 : 0;
         default:
           return 0;
       }
-    }
-
-    private static int one(boolean holds) {
-      return holds ? 1 : 0;
     }
   }
 
