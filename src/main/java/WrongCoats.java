@@ -352,11 +352,7 @@ public final class WrongCoats {
       return refuse(BEYOND);
     }
     int answer = speaker.speak(house.kind[coat], coat, house.mark[coat], voice, x);
-    if (speaker.parted) {
-      return refuse(PARTED);
-    }
-    speaker.keepTrace();
-    return answer;
+    return speaker.parted ? refuse(PARTED) : answer;
   }
 
   public int body(int i) {
@@ -1214,9 +1210,9 @@ public final class WrongCoats {
 
   /** The voices of one coat at a time. */
   static final class Speaker {
+    /** The bodies of the latest voice, of one that parted too. */
     final Ints trace = new Ints(MOST_TRACED);
     boolean parted;
-    private final Ints began = new Ints(MOST_TRACED);
     private int kind;
     private int k;
     private int m;
@@ -1226,13 +1222,8 @@ public final class WrongCoats {
       k = number;
       m = itsMark;
       parted = false;
-      began.size = 0;
+      trace.size = 0;
       return say(itsKind, voice, x, 0);
-    }
-
-    /** A voice that parted is an error and changes nothing, so the trace is kept apart till here. */
-    void keepTrace() {
-      trace.copyFrom(began);
     }
 
     private int say(int from, int voice, int x, int depth) {
@@ -1241,7 +1232,7 @@ public final class WrongCoats {
         return 0;
       }
       int number = BODIES[at * VOICES + voice];
-      began.push(number);
+      trace.push(number);
       return number < 30
           ? sayPlain(number, ABOVE[at], x, depth + 1)
           : sayOther(number, ABOVE[at], x, depth + 1);
@@ -1272,7 +1263,7 @@ public final class WrongCoats {
         case 20:
           return say(above, HANGS, x, depth) - 4;
         case 21:
-          return say(above, PARTS, x, depth) + say(kind, KEEPS, 1, depth);
+          return partAndKeep(above, x, depth);
         default:
           return 0;
       }
@@ -1297,6 +1288,12 @@ public final class WrongCoats {
         default:
           return 0;
       }
+    }
+
+    /** A voice that parted answers that alone, so no other body begins after it. */
+    private int partAndKeep(int above, int x, int depth) {
+      int part = say(above, PARTS, x, depth);
+      return parted ? 0 : part + say(kind, KEEPS, 1, depth);
     }
 
     private int part(int x) {

@@ -651,24 +651,18 @@ public final class ModelTest {
 
     int voice(int coat, int voice, int x) {
       need(isCoat(coat) && voice >= 0 && voice < 4, 1);
-      List<Integer> before = trace;
       trace = new ArrayList<>();
       int kind = now.coats.get(coat).kind;
       int m = now.coats.get(coat).m;
-      try {
-        switch (voice) {
-          case 0:
-            return hangs(kind, kind, coat, m, x);
-          case 1:
-            return keeps(kind, kind, coat, m, x);
-          case 2:
-            return returns(kind, kind, coat, m, x);
-          default:
-            return parts(kind, kind, coat, m, x);
-        }
-      } catch (Refusal r) {
-        trace = before;
-        throw r;
+      switch (voice) {
+        case 0:
+          return hangs(kind, kind, coat, m, x);
+        case 1:
+          return keeps(kind, kind, coat, m, x);
+        case 2:
+          return returns(kind, kind, coat, m, x);
+        default:
+          return parts(kind, kind, coat, m, x);
       }
     }
 

@@ -825,7 +825,23 @@ public final class PromisesTest {
     x.voice(6, 0, 0);
     x.become(1, 11);
     due(x.voice(1, 3, 5), PARTED);
-    trace(x, 70);
+    trace(x, 21, 13);
+    due(x.voice(9, 0, 0), BEYOND);
+    due(x.voice(1, 4, 0), BEYOND);
+    trace(x, 21, 13);
+    x.become(4, 44);
+    x.voice(6, 0, 0);
+    due(x.voice(4, 3, 5), PARTED);
+    trace(x, 21, 13);
+    x.become(0, 0);
+    x.voice(0, 1, 0);
+    due(x.voice(0, 3, 0), PARTED);
+    trace(x, 13);
+    x.become(0, 1);
+    x.voice(0, 3, 0);
+    trace(x, 13);
+    x.voice(1, 0, 0);
+    trace(x, 20, 10);
   }
 
   private static void sheet() {
