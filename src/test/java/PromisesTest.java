@@ -53,8 +53,11 @@ public final class PromisesTest {
   }
 
   private static void untilNight(WrongCoats x, int night) {
-    while (x.count(2) < night) {
-      x.nights(Math.min(30, night - x.count(2)));
+    int now = x.count(2);
+    while (now < night) {
+      int n = Math.min(30, night - now);
+      x.nights(n);
+      now += n;
     }
   }
 

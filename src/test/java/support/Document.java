@@ -1,0 +1,43 @@
+import java.io.IOException;
+import java.nio.file.Files;
+import java.nio.file.Path;
+
+/** The words of ../shared/DOC.md, as a test quotes them. */
+final class Document {
+  static final int PROMISES = 38;
+  private static final String PLACE = "../shared/DOC.md";
+
+  private final String text;
+
+  private Document(String text) {
+    this.text = text;
+  }
+
+  static Document read() throws IOException {
+    String whole = Files.readString(Path.of(PLACE));
+    return new Document(whole.replace("```text", " ").replace("```", " "));
+  }
+
+  /** The part that "Terms" or "Promise 2" names, its blanks made one; empty: there is none. */
+  String part(String name) {
+    int head = text.indexOf("\n## " + name + (name.equals("Terms") ? "\n" : ":"));
+    if (head < 0) {
+      return "";
+    }
+    int end = text.indexOf("\n## ", head + 1);
+    String part = text.substring(head, end < 0 ? text.length() : end);
+    return part.substring(part.indexOf('\n', 1)).replaceAll("\\s+", " ").trim();
+  }
+
+  static String partOf(String said) {
+    return said.substring(0, Math.max(0, said.indexOf(": ")));
+  }
+
+  static String quoteOf(String said) {
+    return said.substring(said.indexOf(": ") + 2);
+  }
+
+  boolean has(String said) {
+    return part(partOf(said)).contains(quoteOf(said));
+  }
+}
