@@ -7,7 +7,7 @@ public final class GuestsEdgesTest extends Edges {
     "Promise 1: All as at first; no GUESTS, no COATS, no TEXTS.",
     "Terms: NIGHT (0 .. 9999; 0 at first)",
     "Terms: GLAD (-99999 .. 99999; 0 at first)",
-    "Terms: z is told (1 at first)"
+    "Terms: DRAWS: z is told (1 at first)"
   })
   static void promise1CountsAreAsAtFirst() {
     WrongCoats x = new WrongCoats();

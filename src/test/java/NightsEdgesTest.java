@@ -75,7 +75,7 @@ public final class NightsEdgesTest extends Edges {
 
   // ---- Terms: SUITS
 
-  @Says("Terms: COAT: 20 less twice the difference of SIZE and m.")
+  @Says("Terms: SUITS (a guest): COAT: 20 less twice the difference of SIZE and m.")
   static void termsSuitsOfCoatAtTheEndsOfSizeAndM() {
     suits(0, 20, 2, 2, 20, 2, 20);
   }
@@ -151,7 +151,7 @@ public final class NightsEdgesTest extends Edges {
 
   // ---- Terms: MAKES
 
-  @Says("Terms: COAT, HUNTING: WIT, and the rest of NIGHT by 3.")
+  @Says("Terms: MAKES (of a guest in it): COAT, HUNTING: WIT, and the rest of NIGHT by 3.")
   static void termsMakesOfCoatAndHunting() {
     makes(0, 0, 1, 9, 1, 2, 10, 2, 3, 11, 0, 1, 9);
     makes(3, 0, 1, 9, 1, 2, 10, 2, 3, 11, 0, 1, 9);
@@ -296,7 +296,7 @@ public final class NightsEdgesTest extends Edges {
     due(x.told(1), 0);
   }
 
-  @Says("Terms: GLAD is more by what is DONE by all who wear one, together (held within")
+  @Says("Terms: A NIGHT: GLAD is more by what is DONE by all who wear one, together (held within")
   static void termsGladIsHeldInEachNightOfMany() {
     for (boolean drawn : new boolean[] {false, true}) {
       WrongCoats above = nearlyMostGlad(true);

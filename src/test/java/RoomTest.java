@@ -1,9 +1,12 @@
 import java.lang.management.ManagementFactory;
 
-/** All calls of one run live in one small room, so no call may make anything. */
+/** All calls of one run live in one small room, so no call makes anything, and an object is small. */
 public final class RoomTest {
   private static final String LONG_TEXT =
       "g*2+s*3-n%4+(g|s&n<5)*(g+1)/(s+1)+!(g=s)*7+!!g-(n+(s*2))+123";
+
+  /** So small that a run could make an object anew for each of 512 calls. */
+  private static final int MOST_BYTES = 16384;
 
   private static void tell(WrongCoats x, int use, String text) {
     for (int i = 0; i < text.length(); i++) {
@@ -15,6 +18,7 @@ public final class RoomTest {
     }
   }
 
+  /** Fewer than 512 calls, as later ones are free to do anything. */
   private static long dearCalls(WrongCoats x) {
     long sum = 0;
     for (int i = 0; i < 3; i++) {
@@ -39,24 +43,34 @@ public final class RoomTest {
     return x;
   }
 
+  private static void due(long bytes, long most, String by) {
+    System.out.println(bytes + " bytes made by " + by);
+    if (bytes > most) {
+      System.out.println("that is too much");
+      System.exit(1);
+    }
+  }
+
   public static void main(String[] args) {
     if (!(ManagementFactory.getThreadMXBean()
         instanceof com.sun.management.ThreadMXBean threads)) {
       System.out.println("this machine doesn't tell what is made");
       return;
     }
-    WrongCoats first = ready(6);
-    WrongCoats second = ready(7);
-    long sum = dearCalls(first) + dearCalls(second);
+    long sum = dearCalls(ready(6)) + dearCalls(ready(7));
+    WrongCoats[] all = new WrongCoats[40];
     long before = threads.getCurrentThreadAllocatedBytes();
-    for (int i = 0; i < 20; i++) {
-      sum += dearCalls(first) + dearCalls(second);
+    for (int i = 0; i < all.length; i++) {
+      all[i] = new WrongCoats();
     }
-    long made = threads.getCurrentThreadAllocatedBytes() - before;
-    System.out.println(made + " bytes made by dear calls (sum " + sum + ")");
-    if (made > 10000) {
-      System.out.println("that is too much");
-      System.exit(1);
+    due((threads.getCurrentThreadAllocatedBytes() - before) / all.length, MOST_BYTES, "a new object");
+    for (int i = 0; i < all.length; i++) {
+      all[i] = ready(6 + i % 2);
     }
+    before = threads.getCurrentThreadAllocatedBytes();
+    for (WrongCoats x : all) {
+      sum += dearCalls(x);
+    }
+    due(threads.getCurrentThreadAllocatedBytes() - before, 10000, "dear calls (sum " + sum + ")");
   }
 }

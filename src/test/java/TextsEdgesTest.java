@@ -94,7 +94,7 @@ public final class TextsEdgesTest extends Edges {
     due(x.text(0), -17);
   }
 
-  @Says("Promise 12: come to THE TAPE: how many there are.")
+  @Says({"Promise 12: come to THE TAPE: how many there are.", "Terms: TEXTS are read from THE TAPE"})
   static void promise12ComesBehindWhatIsThere() {
     WrongCoats x = new WrongCoats();
     due(x.feed('9', 1), 1);
@@ -242,6 +242,8 @@ public final class TextsEdgesTest extends Edges {
     faulty(0, 4, "10000", "99999", "00000", "00001", "123456");
     faulty(0, 6, "g+12345", "9+00000");
     faulty(0, 5, "(12345)", "!12345");
+    faulty(0, 0, "/", ":");
+    faulty(0, 1, "1:", "9:");
     faulty(0, 1, "1g", "1(", "1!");
     due(gives("9999-9900", 0, 0, 0), 99);
     due(gives("0009", 0, 0, 0), 9);
@@ -296,7 +298,7 @@ public final class TextsEdgesTest extends Edges {
     faulty(0, 6, "((g+s)", "(((g))");
   }
 
-  @Says("Terms: 0 LIKE: NAMES g how it SUITS, s SMELL, n the rest of NIGHT by 7")
+  @Says("Terms: USES: 0 LIKE: NAMES g how it SUITS, s SMELL, n the rest of NIGHT by 7")
   static void termsNamesOfLike() {
     whole(0, "g", "s", "n");
     faulty(0, 0, "d", "w", "o", "G", "S", "N", "f", "h", "r", "t", "m");

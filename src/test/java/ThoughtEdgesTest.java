@@ -375,7 +375,7 @@ public final class ThoughtEdgesTest extends Edges {
     refused(BEYOND, Edges::full, x -> x.fits(4, 1));
   }
 
-  @Says("Terms: who can be that one, as a set; the least.")
+  @Says("Terms: all having LEFT from one on, round: who can be that one, as a set; the least.")
   static void termsFitsOfSeveralTheLeast() {
     WrongCoats x = alike(3, 1);
     sheet(x, 0, 8, -1);

@@ -116,7 +116,7 @@ public final class VoicesEdgesTest extends Edges {
 
   // ---- Terms: BODIES, with ints that wrap
 
-  @Says({"Terms: with a number x (ints that wrap)", "Terms: 10 hangs: x + k."})
+  @Says({"Terms: with a number x (ints that wrap)", "Terms: BODIES: Coat: 10 hangs: x + k."})
   static void termsBody10Wraps() {
     due(voice(6, 0, 0, MOST_INT - 6), MOST_INT);
     due(voice(6, 0, 0, MOST_INT - 5), LEAST_INT);
@@ -158,7 +158,7 @@ public final class VoicesEdgesTest extends Edges {
     due(voice(6, 5, 3, 5), -5);
   }
 
-  @Says({"Terms: with a number x (ints that wrap)", "Terms: 20 hangs: super.hangs(x) - 4."})
+  @Says({"Terms: with a number x (ints that wrap)", "Terms: Ulster: 20 hangs: super.hangs(x) - 4."})
   static void termsBody20Wraps() {
     due(voice(0, 10, 0, LEAST_INT + 4), LEAST_INT);
     due(voice(0, 10, 0, LEAST_INT + 3), MOST_INT);
@@ -174,14 +174,14 @@ public final class VoicesEdgesTest extends Edges {
     due(voice(1, 10, 3, LEAST_INT), LEAST_INT - 4);
   }
 
-  @Says({"Terms: with a number x (ints that wrap)", "Terms: 30 keeps: 0 - super.keeps(x)."})
+  @Says({"Terms: with a number x (ints that wrap)", "Terms: Cape: 30 keeps: 0 - super.keeps(x)."})
   static void termsBody30Wraps() {
     due(voice(0, 20, 1, QUARTER), LEAST_INT);
     due(voice(0, 20, 1, QUARTER - 1), 1 - MOST_INT);
     due(voice(0, 20, 1, 0), 0);
   }
 
-  @Says({"Terms: 40 returns: super.returns(x / 2).", "Terms: Quotients are cut toward 0."})
+  @Says({"Terms: Hunting: 40 returns: super.returns(x / 2).", "Terms: Quotients are cut toward 0."})
   static void termsBody40Cuts() {
     due(voice(0, 30, 2, 7), 6);
     due(voice(0, 30, 2, -7), -6);
@@ -191,7 +191,7 @@ public final class VoicesEdgesTest extends Edges {
     due(voice(0, 30, 2, MOST_INT), MOST_INT - 1);
   }
 
-  @Says({"Terms: with a number x (ints that wrap)", "Terms: 50 hangs: super.hangs(x) * 3."})
+  @Says({"Terms: with a number x (ints that wrap)", "Terms: Dress: 50 hangs: super.hangs(x) * 3."})
   static void termsBody50Wraps() {
     due(voice(0, 40, 0, 715827886), MOST_INT - 1);
     due(voice(0, 40, 0, 715827887), -MOST_INT);
@@ -207,14 +207,14 @@ public final class VoicesEdgesTest extends Edges {
     due(voice(0, 49, 2, 4), -9);
   }
 
-  @Says({"Terms: with a number x (ints that wrap)", "Terms: 60 keeps: super.keeps(x + 1)."})
+  @Says({"Terms: with a number x (ints that wrap)", "Terms: Cloak: 60 keeps: super.keeps(x + 1)."})
   static void termsBody60Wraps() {
     due(voice(0, 50, 1, MOST_INT), 0);
     due(voice(0, 50, 1, MOST_INT - 1), 2);
     due(voice(0, 50, 1, -1), 0);
   }
 
-  @Says({"Terms: 70 hangs: 9.", "Terms: 71 keeps: super.keeps(x) + m."})
+  @Says({"Terms: Letter: 70 hangs: 9.", "Terms: 71 keeps: super.keeps(x) + m."})
   static void termsBodies70And71ByAnyX() {
     for (int x : new int[] {0, LEAST_INT, MOST_INT}) {
       due(voice(6, 69, 0, x), 9);

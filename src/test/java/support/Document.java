@@ -1,8 +1,12 @@
 import java.io.IOException;
 import java.nio.file.Files;
 import java.nio.file.Path;
+import java.util.ArrayList;
+import java.util.List;
+import java.util.regex.Matcher;
+import java.util.regex.Pattern;
 
-/** The words of ../shared/DOC.md, as a test quotes them. */
+/** The words of ../shared/DOC.md, as tests quote them, and the face that it tells. */
 final class Document {
   static final int PROMISES = 38;
   private static final String PLACE = "../shared/DOC.md";
@@ -18,15 +22,25 @@ final class Document {
     return new Document(whole.replace("```text", " ").replace("```", " "));
   }
 
-  /** The part that "Terms" or "Promise 2" names, its blanks made one; empty: there is none. */
+  /** The part that "What it is", "Terms" or "Promise 2" names, its blanks made one; empty: there is none. */
   String part(String name) {
-    int head = text.indexOf("\n## " + name + (name.equals("Terms") ? "\n" : ":"));
+    int head = text.indexOf("\n## " + name + (name.startsWith("Promise") ? ":" : "\n"));
     if (head < 0) {
       return "";
     }
     int end = text.indexOf("\n## ", head + 1);
     String part = text.substring(head, end < 0 ? text.length() : end);
     return part.substring(part.indexOf('\n', 1)).replaceAll("\\s+", " ").trim();
+  }
+
+  /** The face, a line each: "public int guest(int wit, int size, int smell)". */
+  List<String> face() {
+    List<String> lines = new ArrayList<>();
+    Matcher line = Pattern.compile("(?m)^ +(public .*\\));$").matcher(text);
+    while (line.find()) {
+      lines.add(line.group(1));
+    }
+    return lines;
   }
 
   static String partOf(String said) {

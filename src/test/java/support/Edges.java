@@ -70,6 +70,17 @@ abstract class Edges {
     }
   }
 
+  /** The act answers what it may, and all stays as if it had not been. */
+  static void changesNothing(Made made, Act act) {
+    for (int way = 0; way < WAYS; way++) {
+      WrongCoats left = made.one();
+      WrongCoats tried = made.one();
+      act.on(tried);
+      due(counted(tried), counted(left));
+      due(look(way, tried), look(way, left));
+    }
+  }
+
   /** The act answers no ERROR, and told() counts none. */
   static int taken(Made made, Act act) {
     WrongCoats x = made.one();
@@ -340,7 +351,7 @@ abstract class Edges {
     if (many == 0) {
       wrong++;
     }
-    System.out.println(many + " tests of edges, " + wrong + " answers wrong");
+    System.out.println(many + " tests of sentences, " + wrong + " answers wrong");
     if (wrong != 0) {
       System.exit(1);
     }

@@ -3,7 +3,7 @@ import java.lang.annotation.Retention;
 import java.lang.annotation.RetentionPolicy;
 import java.lang.annotation.Target;
 
-/** The sentences of the document that a test stands for: "Terms: .." or "Promise 2: ..". */
+/** The sentences that a test stands for, each behind its part: "Terms: ..", "Promise 2: ..". */
 @Retention(RetentionPolicy.RUNTIME)
 @Target(ElementType.METHOD)
 @interface Says {
